@@ -892,11 +892,7 @@ public final class LoomCards {
         }
 
         int howManySuspects(Loom loom) {
-            int suspects = 0;
-            for (int place = NO_PLACE; place < loom.places(); place++) {
-                suspects += isSuspect(loom, place) ? 1 : 0;
-            }
-            return suspects;
+            return Long.bitCount(suspectBits(loom));
         }
 
         int firstSuspect(Loom loom) {
@@ -909,16 +905,17 @@ public final class LoomCards {
         }
 
         int whereToLook(Loom loom) {
-            int suspects = howManySuspects(loom);
-            if (suspects <= 1) {
+            long suspects = suspectBits(loom);
+            int all = Long.bitCount(suspects);
+            if (all <= 1) {
                 return NONE;
             }
             int best = NONE;
-            int least = suspects + 1;
+            int least = all + 1;
             for (int row = 0; row < loom.cards; row++) {
                 for (int end = 0; end < loom.ends; end++) {
-                    int up = howManySayUp(loom, row, end);
-                    int greater = Math.max(up, suspects - up);
+                    int up = howManySayUp(loom, suspects, row, end);
+                    int greater = Math.max(up, all - up);
                     if (greater < least) {
                         least = greater;
                         best = MOST_ENDS * row + end;
@@ -928,12 +925,25 @@ public final class LoomCards {
             return best;
         }
 
-        private int howManySayUp(Loom loom, int row, int end) {
+        private static int howManySayUp(Loom loom, long suspects, int row, int end) {
             int up = 0;
             for (int place = NO_PLACE; place < loom.places(); place++) {
-                up += isUpBy(loom, place, row, end) && isSuspect(loom, place) ? 1 : 0;
+                boolean isAmongThem = (suspects & bitOf(place)) != 0;
+                up += isAmongThem && isUpBy(loom, place, row, end) ? 1 : 0;
             }
             return up;
+        }
+
+        private long suspectBits(Loom loom) {
+            long bits = 0;
+            for (int place = NO_PLACE; place < loom.places(); place++) {
+                bits |= isSuspect(loom, place) ? bitOf(place) : 0;
+            }
+            return bits;
+        }
+
+        private static long bitOf(int place) {
+            return 1L << place - NO_PLACE;
         }
 
         private boolean isSuspect(Loom loom, int place) {

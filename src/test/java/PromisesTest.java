@@ -157,9 +157,14 @@ public final class PromisesTest {
         dueFault("hooks", 5);
         dueFault("hooks 3", 7);
         dueFault("hooks 3  ", 9);
+        dueFault("hooks" + " ".repeat(115), 120);
         dueFault("hook", 0);
         dueFault("  hook", 2);
         dueFault("hooksties", 0);
+        dueFault("sard 00;", 0);
+        dueFault("cord 00;", 0);
+        dueFault("cardz 00;", 0);
+        dueFault("acard 00;", 0);
         dueFault("caRd 00;", 0);
         dueFault("card#00;", 4);
         dueFault("card 0#;", 5);
@@ -457,6 +462,8 @@ public final class PromisesTest {
         LoomCards round = loom("card 10;card 10;card 01;card 00;card 10;card 10;card 10;");
         due("ALONG goes on from the last CARD to the first", round.end(0, 1), 5);
         due("DOWN, too", round.end(1, 1), 6);
+        LoomCards far = loom("card 10;card 10;card 10;card 01;card 10;card 10;card 10;card 10;");
+        due("ALONG goes on far behind the first CARD", far.end(0, 1), 7);
         LoomCards once = loom("hooks 1;card 1;card 0;");
         due("ALONG 1", once.end(0, 1), 1);
         due("one CARD", loom("card 10;").end(0, 1), 99);
@@ -522,6 +529,7 @@ public final class PromisesTest {
         dueMends("card 10;card 01;", 0, NONE, NONE);
         dueMends("card 10;card 00;", 1, 1, NONE);
         dueMends("card 11;card 01;", 1, 1, NONE);
+        dueMends("card 01;card 00;", 1, 0, NONE);
         dueMends("card 00;card 00;", 2, 0, 1);
         dueMends("card 11;card 11;", 2, 0, 1);
         dueMends("card 11;card 11;limit 1;", 2, 0, 3);
