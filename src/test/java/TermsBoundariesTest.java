@@ -218,7 +218,7 @@ public final class TermsBoundariesTest {
     }
 
     private static void alongGoesRound() {
-        sentence = "ALONG of an END: the most ROWS one behind another in all of which it is UP, or in all of which it is DOWN";
+        sentence = "ALONG of an END: the most ROWS one behind another in all of which it is UP, or in all of which DOWN";
         for (int cards = 2; cards <= 8; cards++) {
             for (int one = 0; one < cards; one++) {
                 String up = zeros(one) + "1" + zeros(cards - one - 1);
@@ -573,6 +573,21 @@ public final class TermsBoundariesTest {
         mended("ties 01;card 10;card 01;card 10;card 11;limit 1;", 1, 6, NONE);
     }
 
+    private static void mendedWhereCardsAreTooLong() {
+        sentence = "so that nothing is TOO LONG: CARDS, while no END is";
+        LoomCards x = loom("ties 0011;card 10;card 01;card 00;limit 3;");
+        due("CARDS TOO LONG", x.told(2), 4);
+        due("ENDS TOO LONG", x.told(3), 0);
+        mended(x, "one CARD", 1, 4, NONE);
+        LoomCards y = loom("ties 0011;card 11;card 00;card 00;limit 3;");
+        due("CARDS TOO LONG", y.told(2), 6);
+        due("ENDS TOO LONG", y.told(3), 0);
+        mended(y, "two CARDS", 2, 2, 5);
+        LoomCards z = loom("ties 0011;card 11;card 00;card 00;card 00;limit 3;");
+        due("CARDS TOO LONG", z.told(2), 14);
+        mended(z, "three CARDS", NONE, NONE, NONE);
+    }
+
     private static void placesOfHooksWithoutEndsMendNothing() {
         sentence = "A HOLE's place has a number: H times the CARD, and the HOOK";
         mended("hooks 3;ties 2;card 111;card 111;", 1, 2, NONE);
@@ -910,7 +925,8 @@ public final class TermsBoundariesTest {
         TermsBoundariesTest::allSevenKindsAreUndone, TermsBoundariesTest::othersAreNotUndone,
         TermsBoundariesTest::undoneAndDoneAnew, TermsBoundariesTest::mendedByNone, TermsBoundariesTest::mendedByOne,
         TermsBoundariesTest::mendedByTwo, TermsBoundariesTest::mendedNotByTwo,
-        TermsBoundariesTest::whatMendsOneMayNotSpoilAnother, TermsBoundariesTest::placesOfHooksWithoutEndsMendNothing,
+        TermsBoundariesTest::whatMendsOneMayNotSpoilAnother, TermsBoundariesTest::mendedWhereCardsAreTooLong,
+        TermsBoundariesTest::placesOfHooksWithoutEndsMendNothing,
         TermsBoundariesTest::theLastPlaces, TermsBoundariesTest::eightAreSeenAtMost,
         TermsBoundariesTest::rowsAndEndsThatCanBeSeen, TermsBoundariesTest::whatIsSeenGoesRoundWithTheCards,
         TermsBoundariesTest::howManySuspects, TermsBoundariesTest::suspectsOfHooksWithoutEnds,
