@@ -10,6 +10,7 @@ import java.util.Arrays;
 import java.util.List;
 import java.util.Set;
 import java.util.TreeSet;
+import java.util.regex.Matcher;
 import java.util.regex.Pattern;
 
 /** The document's face, and those rules of LANGUAGE.md that can be told from the class and from its text. */
@@ -26,6 +27,13 @@ public final class LanguageTest {
         "\\b(throw|throws|try|catch|synchronized|assert|native|volatile|transient)\\b", "\\b(import|package)\\b",
         "->", "::", "\\bstatic\\s*\\{", "\\b(System\\.(?!arraycopy\\b)|Thread|Runtime|Random)", "Exact\\(",
     };
+    /** Of what LANGUAGE.md allows, that which the class needs: another one is looked up there, then put here. */
+    private static final Set<String> LIBRARY = Set.of("Integer.bitCount", "Long.bitCount", "Math.max", "Math.min",
+        "System.arraycopy");
+    private static final Pattern LIBRARY_CALL = Pattern.compile("\\b([A-Z]\\w*\\.[a-z]\\w*)\\s*\\(");
+    /** What is made stands in a field's own line, or is put into an array of looms (by a constructor: that is not seen here). */
+    private static final Pattern MADE = Pattern.compile(
+        " +(private )?final [\\w\\[\\]]+ \\w+ = new \\w+[(\\[]\\w*[)\\]];|            (    )?\\w+\\[\\w+\\] = new Loom\\(\\);");
     private static final int MOST_LINES_OF_A_METHOD = 60;
 
     private static int wrong = 0;
@@ -109,7 +117,17 @@ public final class LanguageTest {
         for (String words : RULED_OUT) {
             due("without " + words, !Pattern.compile(words).matcher(code).find());
         }
+        theLibrary(code);
         methodsAreShort(source.split("\n"));
+    }
+
+    private static void theLibrary(String code) {
+        for (Matcher call = LIBRARY_CALL.matcher(code); call.find();) {
+            due(call.group(1) + " is of the library that is allowed", LIBRARY.contains(call.group(1)));
+        }
+        for (String line : code.split("\n")) {
+            due("made once, not by a call: " + line, !line.matches(".*\\bnew\\b.*") || MADE.matcher(line).matches());
+        }
     }
 
     private static void methodsAreShort(String[] lines) {
