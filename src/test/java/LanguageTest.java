@@ -31,7 +31,7 @@ public final class LanguageTest {
     private static final Set<String> LIBRARY = Set.of("Integer.bitCount", "Long.bitCount", "Math.max", "Math.min",
         "System.arraycopy");
     private static final Pattern LIBRARY_CALL = Pattern.compile("\\b([A-Z]\\w*\\.[a-z]\\w*)\\s*\\(");
-    /** What is made stands in a field's own line, or is put into an array of looms (by a constructor: that is not seen here). */
+    /** What is made stands in a field's own line, or goes into an array of looms (by a constructor: that is not seen here). */
     private static final Pattern MADE = Pattern.compile(
         " +(private )?final [\\w\\[\\]]+ \\w+ = new \\w+[(\\[]\\w*[)\\]];|            (    )?\\w+\\[\\w+\\] = new Loom\\(\\);");
     private static final int MOST_LINES_OF_A_METHOD = 60;
